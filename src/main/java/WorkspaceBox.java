@@ -999,9 +999,11 @@ public final class WorkspaceBox {
                 case OP_CZC:
                     flag(FLAG_E, (value & had) == 0);
                     break;
-                default:
+                case OP_XOR:
                     compare(had ^ value, 0, false);
                     memory.putWord(register, had ^ value);
+                    break;
+                default:
                     break;
             }
         }
